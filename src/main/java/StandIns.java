@@ -669,7 +669,6 @@ public final class StandIns {
             note.a = a;
             note.b = b;
             note.seen = false;
-            note.answeredBy = NONE;
             size++;
             nextNumber++;
             return note;

@@ -282,15 +282,19 @@ public final class Promise05CallTest {
         Due.due(0, x.call(0, 2, 0, 0));
     }
 
+    /** Wherever it stands among others that do. */
     private static void wrongTold(int kind, int v, int m) {
-        StandIns x = standIns(0);
-        x.answer(1, 0);
-        x.answer(kind, v);
-        Due.due(2, x.told(0));
-        Due.due(error(-5), x.call(0, m, 0, 0));
-        Due.due(0, x.count(2));
-        Due.due(0, x.count(5));
-        Due.due(0, x.count(6));
-        Due.due(1, x.count(9));
+        for (int at = 0; at < 4; at++) {
+            StandIns x = standIns(0);
+            for (int i = 0; i < 4; i++) {
+                Due.due(i + 1, i == at ? x.answer(kind, v) : x.answer(1, 0));
+            }
+            Due.due(4, x.told(0));
+            Due.due(error(-5), x.call(0, m, 0, 0));
+            Due.due(0, x.count(2));
+            Due.due(0, x.count(5));
+            Due.due(0, x.count(6));
+            Due.due(1, x.count(9));
+        }
     }
 }

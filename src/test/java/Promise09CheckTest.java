@@ -3,6 +3,7 @@ public final class Promise09CheckTest {
     public static void main(String[] args) {
         byNumber();
         only();
+        onlyAmongEarlierAndLaterOnes();
         inOrder();
         seenOnlyIfPassed();
         inOrderSeesThoseFoundAlone();
@@ -88,6 +89,18 @@ public final class Promise09CheckTest {
         x.call(0, 1, 5, 0);
         checked(false, x, 3, 0, 5);
         Due.due(2, x.found(1));
+    }
+
+    private static void onlyAmongEarlierAndLaterOnes() {
+        StandIns earlier = standIns();
+        earlier.call(0, 0, 0, 0);
+        earlier.call(0, 1, 5, 0);
+        checked(false, earlier, 3, 0, 5);
+        StandIns later = standIns();
+        later.call(0, 1, 5, 0);
+        later.call(0, 0, 0, 0);
+        checked(false, later, 3, 0, 5);
+        Due.due(0, later.noMore(0));
     }
 
     private static void inOrder() {

@@ -3,6 +3,7 @@ public final class Promise16CountTest {
     public static void main(String[] args) {
         eachOfThem();
         tellingsThatNeverAnswered();
+        allSixteenTellings();
         eachState();
         misuses();
         others();
@@ -77,6 +78,21 @@ public final class Promise16CountTest {
         Due.due(3, x.count(3));
         x.call(0, 1, 1, 0);
         Due.due(2, x.count(3));
+    }
+
+    private static void allSixteenTellings() {
+        StandIns x = standIns();
+        for (int i = 0; i < 16; i++) {
+            x.answer(0, i);
+            x.told(0);
+            x.call(0, 1, i, 0);
+            Due.due(i + 1, x.count(3));
+        }
+        for (int i = 0; i < 16; i++) {
+            x.call(0, 1, i, 0);
+            Due.due(15 - i, x.count(3));
+        }
+        Due.due(16, x.count(2));
     }
 
     private static void eachState() {
