@@ -112,7 +112,7 @@ public final class Promise15CaughtTest {
 
     private static void theLatestTwelve() {
         StandIns x = standIns();
-        for (int i = 0; i < 30; i++) {
+        for (int i = 0; i < 26; i++) {
             x.call(0, 1, 100 + i, 0);
             check(x, 4, 1);
             x.matcher(7, 0);
