@@ -307,10 +307,12 @@ public final class EdgesOfCallsTest {
     /** "REFUSED if kind is not 0..3, or for kind 1 v not 0..999, for kind 2 not 0..1", prepared or to a TELLING. */
     private static void answerRefuses() {
         for (String before : new String[] {"", "call 0 2 5 6; when"}) {
-            for (String bad : new String[] {"-1 0", "4 0", "MIN 0", "MAX 0", "1 -1", "1 1000", "1 MIN", "1 MAX", "2 -1", "2 2", "2 MIN", "2 MAX"}) {
+            for (String bad : new String[] {"-1 0", "4 0", "MIN 0", "MAX 0", "1 -1", "1 1000", "1 MIN", "1 MAX",
+                "2 -1", "2 2", "2 MIN", "2 MAX"}) {
                 new Run(STRICT, before, "answer " + bad + " = REFUSED; count 6 = 0; count 9 = 0; count 5 = " + (before.isEmpty() ? 0 : 4));
             }
-            for (String good : new String[] {"0 0", "0 MIN", "0 MAX", "1 0", "1 999", "2 0", "2 1", "3 0", "3 MIN", "3 MAX", "3 -1", "0 1000"}) {
+            for (String good : new String[] {"0 0", "0 MIN", "0 MAX", "0 1000", "1 0", "1 999", "2 0", "2 1",
+                "3 0", "3 MIN", "3 MAX", "3 -1"}) {
                 new Run(STRICT, before, "answer " + good + " = 1; answer " + good + " = 2; count 9 = 0");
             }
         }

@@ -154,8 +154,8 @@ public final class EdgesOfChecksTest {
     /** Only IN ORDER looks at the PLACE, or moves it. */
     private static void otherModesLeaveThePlace() {
         String notes = TWO + "call 0 1 5 0; check 0 4 1; call 0 1 5 0 = PASSED; count 8 = 0; ";
-        new Run(notes, check(0, 1, 5, true), "count 8 = 0", check(1, 1, 5, true), "count 8 = 0", check(2, 1, 5, true), "count 8 = 0", check(3, 1, 5, true), "count 8 = 0");
         for (int mode = 0; mode <= 3; mode++) {
+            new Run(notes, check(mode, 1, 5, true), "found 1 = 1; found 2 = 0; count 8 = 0");
             new Run(TWO, "call 0 1 5 0", check(mode, 1, 5, true), "count 8 = -1", check(4, 1, 5, true), "found 2 = 0");
         }
     }

@@ -2,8 +2,8 @@ import java.util.Random;
 
 /** "An object is used for at most 512 calls": the last of them is answered as the first; and none ever fails to end. */
 public final class EdgesOfLongRunsTest {
-    private static final int[] WILD = {Integer.MIN_VALUE, Integer.MIN_VALUE + 1, -1000, -6, -2, -1, 0, 1, 2, 3, 4, 5, 6, 7, 8, 9, 11, 12, 13,
-        15, 16, 17, 39, 40, 41, 42, 999, 1000, Integer.MAX_VALUE - 1, Integer.MAX_VALUE};
+    private static final int[] WILD = {Integer.MIN_VALUE, Integer.MIN_VALUE + 1, -1000, -6, -2, -1, 0, 1, 2, 3, 4, 5, 6, 7, 8, 9,
+        11, 12, 13, 15, 16, 17, 39, 40, 41, 42, 999, 1000, Integer.MAX_VALUE - 1, Integer.MAX_VALUE};
 
     public static void main(String[] args) {
         manyMisuses();
