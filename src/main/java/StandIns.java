@@ -458,7 +458,7 @@ public final class StandIns {
 
     private void seeAndCatch() {
         for (int i = 0; i < finding.size; i++) {
-            Note note = notebook.notes[finding.places[i]];
+            Note note = notebook.notes[finding.indexes[i]];
             note.seen = true;
             if (Matcher.isCatch(asked.first)) {
                 catches.add(note.a);
@@ -700,17 +700,17 @@ public final class StandIns {
         }
     }
 
-    /** What the latest CHECK came to: the places of the CALLS in the notebook, and their NUMBERS. */
+    /** What the latest CHECK came to: where the CALLS stand in the notebook, and their NUMBERS. */
     private static final class Finding {
-        private final int[] places = new int[NOTES];
+        private final int[] indexes = new int[NOTES];
         private final int[] numbers = new int[NOTES];
         private int size = 0;
         private boolean done = false;
         private boolean passed = false;
 
-        private void add(int place, int number) {
+        private void add(int index, int number) {
             if (size < NOTES) {
-                places[size] = place;
+                indexes[size] = index;
                 numbers[size] = number;
                 size++;
             }
